@@ -85,6 +85,15 @@ public final class ForecastsTest {
         log.second(1, 1);
         due("20: agreed", log.missing(1), 0);
 
+        // Only the elder who leaves has the change entry; the one on seat 0 serves both councils.
+        int[] byWhoLeaves = {0, 0, 2, 2, 3, 3};
+        for (int size = 2; size <= 5; size++) {
+            VillageLog leaving = Villages.of(size + 1, size);
+            leaving.change(size - 1, size - 1);
+            due("20: who leaves " + size, leaving.missing(0), byWhoLeaves[size]);
+            due("20: spare() of " + size, leaving.spare(), size == 2 ? 0 : size + 1 - MAJORITY[size]);
+        }
+
         VillageLog all = Villages.of(4, 3);
         all.change(0, 2);
         all.propose(0, 1);
