@@ -28,6 +28,25 @@ final class Villages {
         return log.run();
     }
 
+    /** Lets an elder propose so many entries. */
+    static void propose(VillageLog log, int elder, int entries) {
+        for (int entry = 0; entry < entries; entry++) {
+            log.propose(elder, entry);
+        }
+    }
+
+    /** Lets an elder second the entries from one up to another. */
+    static void second(VillageLog log, int elder, int from, int to) {
+        for (int entry = from; entry <= to; entry++) {
+            log.second(elder, entry);
+        }
+    }
+
+    /** All that can be seen, with the lengths of the text and of the history. */
+    static String whole(VillageLog log) {
+        return seen(log) + " history " + log.count(10) + " text " + log.count(11);
+    }
+
     /** All that can be seen, but for the text and the history. */
     static String seen(VillageLog log) {
         StringBuilder all = new StringBuilder();
