@@ -253,26 +253,30 @@ public final class EntriesTest {
         due("11: the oldest ones are dropped", log.undo(), ILLEGAL);
         due("11: villagers", log.count(0), 2);
 
-        VillageLog deep = Villages.of(5, 3);
-        String[] seen = new String[5];
-        seen[0] = Villages.seen(deep);
-        due("11: change(0, 1)", deep.change(0, 1), 3);
-        seen[1] = Villages.seen(deep);
-        due("11: forge(4)", deep.forge(4), 3);
-        seen[2] = Villages.seen(deep);
-        due("11: second(2, 0)", deep.second(2, 0), 1);
-        seen[3] = Villages.seen(deep);
-        due("11: learn(1)", deep.learn(1), 1);
-        seen[4] = Villages.seen(deep);
-        due("11: propose(0, 6)", deep.propose(0, 6), 1);
+        VillageLog deep = afterSteps(5);
         for (int left = 4; left >= 0; left--) {
             due("11: undo()", deep.undo(), left);
-            CHECKS.holds("11: the state " + left, seen[left].equals(Villages.seen(deep)));
+            CHECKS.holds("11: the state " + left, Villages.seen(afterSteps(left)).equals(Villages.seen(deep)));
         }
         due("11: empty", deep.undo(), ILLEGAL);
         due("11: change(2, 1)", deep.change(2, 1), 3);
         due("11: undo()", deep.undo(), 0);
-        CHECKS.holds("11: the first state", seen[0].equals(Villages.seen(deep)));
+        CHECKS.holds("11: the first state", Villages.seen(afterSteps(0)).equals(Villages.seen(deep)));
+    }
+
+    /** A village in which so many of five actions were done; a new one, since an object serves for 512 calls alone. */
+    private static VillageLog afterSteps(int steps) {
+        VillageLog log = Villages.of(5, 3);
+        for (int step = 0; step < steps; step++) {
+            switch (step) {
+                case 0: due("11: change(0, 1)", log.change(0, 1), 3); break;
+                case 1: due("11: forge(4)", log.forge(4), 3); break;
+                case 2: due("11: second(2, 0)", log.second(2, 0), 1); break;
+                case 3: due("11: learn(1)", log.learn(1), 1); break;
+                default: due("11: propose(0, 6)", log.propose(0, 6), 1); break;
+            }
+        }
+        return log;
     }
 
     private static void promise11KeepsTheText() {

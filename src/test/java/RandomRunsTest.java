@@ -36,7 +36,7 @@ public final class RandomRunsTest {
     public static void main(String[] args) {
         for (int seed = 0; seed < RUNS; seed++) {
             RandomRunsTest run = new RandomRunsTest(seed);
-            for (int call = 0; call < CALLS && !run.isWrong; call++) {
+            while (run.goesOn()) {
                 run.call();
             }
             if (run.isWrong) {
@@ -44,6 +44,11 @@ public final class RandomRunsTest {
             }
         }
         CHECKS.end("RandomRunsTest");
+    }
+
+    /** What the program answers after its 512th call is free. */
+    private boolean goesOn() {
+        return calls.size() < CALLS && !isWrong;
     }
 
     private void compare(String call, int got, int want) {
@@ -183,7 +188,7 @@ public final class RandomRunsTest {
             "l" + villager() + ";", "g" + villager() + ";", "b" + villager() + ";",
         };
         String command = commands[any(commands.length)];
-        for (int place = 0; place < command.length() && !isWrong; place++) {
+        for (int place = 0; place < command.length() && goesOn(); place++) {
             append(command.charAt(place));
         }
     }

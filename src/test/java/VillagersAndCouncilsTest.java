@@ -207,11 +207,14 @@ public final class VillagersAndCouncilsTest {
         due("6: entries", log.count(4), 60);
         due("6: undo()", log.undo(), 4);
         due("6: propose(0, 1)", log.propose(0, 1), 59);
-        String before = Villages.seen(log);
         due("6: no room", log.change(0, 0), FULL);
         due("6: no room, but no such seat first", log.change(0, 1), BAD);
         due("6: no room, but no elder first", log.change(1, 0), ILLEGAL);
-        CHECKS.holds("6: nothing is changed", before.equals(Villages.seen(log)));
+        due("6: the lot does not move", log.count(7), 1);
+        due("6: no draw", log.count(8), 0);
+        due("6: no change goes on", log.count(6), 0);
+        due("6: entries", log.count(4), 60);
+        due("6: history", log.count(10), 5);
 
         VillageLog alone = Villages.of(1, 1);
         for (int entry = 0; entry < 60; entry++) {
